@@ -1,102 +1,6 @@
-import java.util.ArrayList;
-import java.util.List;
-
 /** Promise by promise: ordinary inputs, the edges that the document names, and wrong inputs. */
-public final class PromiseTests {
-    private static final Class<? extends RuntimeException> ARGUMENT = IllegalArgumentException.class;
-    private static final Class<? extends RuntimeException> STATE = IllegalStateException.class;
-    private static final Class<? extends RuntimeException> INDEX = IndexOutOfBoundsException.class;
-    private static final int[] EXTREMES = {Integer.MIN_VALUE, Integer.MIN_VALUE + 1, Integer.MAX_VALUE - 1, Integer.MAX_VALUE};
-
-    private static int wrong = 0;
-    private static int promise = 0;
-
-    private interface Call {
-        long answer();
-    }
-
-    private static void due(String what, long got, long want) {
-        if (got != want) {
-            wrong++;
-            System.out.println("promise " + promise + ": " + what + " answered " + got + ", due is " + want);
-        }
-    }
-
-    /** The call throws exactly this, and changes nothing that can be seen. */
-    private static void dueThrow(TwoEndQueues q, String what, Class<? extends RuntimeException> want, Call call) {
-        String before = snapshot(q);
-        String got = "an answer";
-        try {
-            call.answer();
-        } catch (RuntimeException e) {
-            got = e.getClass().getSimpleName();
-        }
-        if (!got.equals(want.getSimpleName())) {
-            wrong++;
-            System.out.println("promise " + promise + ": " + what + " gave " + got + ", due is " + want.getSimpleName());
-        }
-        if (!snapshot(q).equals(before)) {
-            wrong++;
-            System.out.println("promise " + promise + ": " + what + " threw and changed something");
-        }
-    }
-
-    private static void dueSame(TwoEndQueues q, String what, String before) {
-        if (!snapshot(q).equals(before)) {
-            wrong++;
-            System.out.println("promise " + promise + ": " + what + ": due is " + before + ", there is " + snapshot(q));
-        }
-    }
-
-    private static String queues(TwoEndQueues q) {
-        StringBuilder text = new StringBuilder();
-        for (int handle = 0; handle < 30; handle++) {
-            if ((q.handles() >> handle & 1) == 1) {
-                text.append(handle).append(':').append(q.key(handle)).append(' ');
-            }
-        }
-        for (int layout = 0; layout < 4; layout++) {
-            text.append('|').append(layout(q, layout));
-        }
-        return text.append('|').append(counts(q)).toString();
-    }
-
-    private static String snapshot(TwoEndQueues q) {
-        return queues(q) + "|" + q.fault() + "|" + q.checksum();
-    }
-
-    private static String layout(TwoEndQueues q, int layout) {
-        List<Integer> row = new ArrayList<>();
-        for (int position = 0; q.at(layout, position) != TwoEndQueues.NONE; position++) {
-            row.add(q.at(layout, position));
-        }
-        return row.toString();
-    }
-
-    private static String counts(TwoEndQueues q) {
-        return q.comparisons(0) + "," + q.comparisons(1) + "," + q.comparisons(2);
-    }
-
-    private static void dueText(String what, String got, String want) {
-        if (!got.equals(want)) {
-            wrong++;
-            System.out.println("promise " + promise + ": " + what + " is " + got + ", due is " + want);
-        }
-    }
-
-    private static TwoEndQueues with(int... keys) {
-        TwoEndQueues q = new TwoEndQueues();
-        for (int key : keys) {
-            q.insert(key);
-        }
-        return q;
-    }
-
-    private static void typeAll(TwoEndQueues q, String text) {
-        for (int i = 0; i < text.length(); i++) {
-            q.type(text.charAt(i));
-        }
-    }
+public final class PromiseTests extends Tests {
+    private static final int[] EXTREMES = {MIN, MIN + 1, MAX - 1, MAX};
 
     private static long checksumOf(long... numbers) {
         long h = 18601;
@@ -139,14 +43,11 @@ public final class PromiseTests {
         undo();
         undoOfEach();
         checksum();
-        System.out.println(wrong == 0 ? "all promises hold" : wrong + " answers are not as due");
-        if (wrong != 0) {
-            System.exit(1);
-        }
+        finish("all promises hold");
     }
 
     private static void newObject() {
-        promise = 1;
+        place = "promise 1";
         TwoEndQueues q = new TwoEndQueues();
         due("NONE", TwoEndQueues.NONE, -1);
         due("size()", q.size(), 0);
@@ -164,7 +65,7 @@ public final class PromiseTests {
     }
 
     private static void insert() {
-        promise = 2;
+        place = "promise 2";
         TwoEndQueues q = new TwoEndQueues();
         due("insert(5)", q.insert(5), 0);
         dueText("counts", counts(q), "0,0,0");
@@ -198,7 +99,7 @@ public final class PromiseTests {
     }
 
     private static void takeLeast() {
-        promise = 3;
+        place = "promise 3";
         TwoEndQueues q = with(5, 3, 4);
         q.forget();
         due("takeLeast()", q.takeLeast(), 1);
@@ -216,7 +117,7 @@ public final class PromiseTests {
     }
 
     private static void takeGreatest() {
-        promise = 4;
+        place = "promise 4";
         TwoEndQueues q = with(5, 3, 4);
         q.forget();
         due("takeGreatest()", q.takeGreatest(), 0);
@@ -235,7 +136,7 @@ public final class PromiseTests {
     }
 
     private static void remove() {
-        promise = 5;
+        place = "promise 5";
         TwoEndQueues q = with(5, 3, 4);
         q.forget();
         due("remove(2), the last position of layouts 0 to 3", q.remove(2), 4);
@@ -253,7 +154,7 @@ public final class PromiseTests {
     }
 
     private static void change() {
-        promise = 6;
+        place = "promise 6";
         TwoEndQueues q = with(5, 3, 4);
         q.forget();
         due("change(2, 4)", q.change(2, 4), 4);
@@ -275,7 +176,7 @@ public final class PromiseTests {
     }
 
     private static void build() {
-        promise = 7;
+        place = "promise 7";
         TwoEndQueues q = with(5, 3, 4);
         q.disturb(0, 0, 1);
         q.disturb(1, 0, 1);
@@ -296,7 +197,7 @@ public final class PromiseTests {
     }
 
     private static void clear() {
-        promise = 8;
+        place = "promise 8";
         TwoEndQueues q = with(5, 3, 4);
         due("clear()", q.clear(), 3);
         dueText("all", queues(q), "|[]|[]|[]|[]|3,2,4");
@@ -311,11 +212,11 @@ public final class PromiseTests {
     private static void sizeHandlesKey() {
         TwoEndQueues q = with(5, -3, 4);
         q.remove(1);
-        promise = 9;
+        place = "promise 9";
         due("size()", q.size(), 2);
-        promise = 10;
+        place = "promise 10";
         due("handles()", q.handles(), 5);
-        promise = 11;
+        place = "promise 11";
         due("key(0)", q.key(0), 5);
         due("key(2)", q.key(2), 4);
         q.insert(-999);
@@ -327,14 +228,14 @@ public final class PromiseTests {
             dueThrow(q, "key(extreme)", INDEX, () -> q.key(extreme));
         }
         q.fill(27, 1);
-        promise = 9;
+        place = "promise 9";
         due("size() with 30 items", q.size(), 30);
-        promise = 10;
+        place = "promise 10";
         due("handles() with 30 items", q.handles(), (1 << 30) - 1);
     }
 
     private static void fill() {
-        promise = 12;
+        place = "promise 12";
         TwoEndQueues q = new TwoEndQueues();
         due("fill(2, 1)", q.fill(2, 1), 2);
         // x is 1103527590, then (1103515245 * 1103527590 + 12345) mod 2^31 = 377401575
@@ -344,7 +245,7 @@ public final class PromiseTests {
         due("size()", q.size(), 0);
         due("fill(1, 0)", q.fill(1, 0), 1);
         due("key(0) from 12345", q.key(0), -100);
-        due("fill(1, MAX)", q.fill(1, Integer.MAX_VALUE), 2);
+        due("fill(1, MAX)", q.fill(1, MAX), 2);
         // -(1103515245) + 12345 mod 2^31 = 1043980748
         due("key(1)", q.key(1), 15929 % 200 - 100);
         dueThrow(q, "fill(0, 0)", ARGUMENT, () -> q.fill(0, 0));
@@ -374,11 +275,11 @@ public final class PromiseTests {
         TwoEndQueues q = with(5, 3, 4, 9);
         for (int queue = 0; queue < 3; queue++) {
             int asked = queue;
-            promise = 13;
+            place = "promise 13";
             due("least() without items", empty.least(asked), -1);
             due("least()", q.least(asked), 1);
             due("least() of one", with(1).least(asked), 0);
-            promise = 14;
+            place = "promise 14";
             due("greatest() without items", empty.greatest(asked), -1);
             due("greatest()", q.greatest(asked), 3);
             due("greatest() of one", with(1).greatest(asked), 0);
@@ -386,15 +287,15 @@ public final class PromiseTests {
             due("greatest() of three, the last", with(1, 2, 3).greatest(asked), 2);
             due("greatest() of three, equal", with(3, 3, 3).greatest(asked), 2);
         }
-        String before = snapshot(q);
+        String before = trace(q);
         q.greatest(1);
         dueSame(q, "greatest(1) counts nothing", before);
         endsGoByLayout();
-        for (int queue : new int[] {-1, 3, Integer.MIN_VALUE, Integer.MAX_VALUE}) {
-            promise = 13;
+        for (int queue : new int[] {-1, 3, MIN, MAX}) {
+            place = "promise 13";
             dueThrow(q, "least(" + queue + ")", ARGUMENT, () -> q.least(queue));
             dueThrow(empty, "least(" + queue + ")", ARGUMENT, () -> empty.least(queue));
-            promise = 14;
+            place = "promise 14";
             dueThrow(q, "greatest(" + queue + ")", ARGUMENT, () -> q.greatest(queue));
             dueThrow(empty, "greatest(" + queue + ")", ARGUMENT, () -> empty.greatest(queue));
         }
@@ -406,11 +307,11 @@ public final class PromiseTests {
         for (int layout = 0; layout < 4; layout++) {
             q.disturb(layout, 0, 3);
         }
-        promise = 13;
+        place = "promise 13";
         due("least(0)", q.least(0), 2);
         due("least(1)", q.least(1), 1);
         due("least(2)", q.least(2), 3);
-        promise = 14;
+        place = "promise 14";
         q.disturb(0, 1, 2);
         due("greatest(0)", q.greatest(0), 1);
         due("greatest(1)", q.greatest(1), 3);
@@ -422,28 +323,28 @@ public final class PromiseTests {
     private static void ranks() {
         TwoEndQueues q = with(5, -7, 5, 999);
         int[] order = {1, 0, 2, 3};
-        for (int place = 0; place < 4; place++) {
-            promise = 15;
-            due("ranked(" + place + ")", q.ranked(place), order[place]);
-            promise = 16;
-            due("rank(" + order[place] + ")", q.rank(order[place]), place);
+        for (int nth = 0; nth < 4; nth++) {
+            place = "promise 15";
+            due("ranked(" + nth + ")", q.ranked(nth), order[nth]);
+            place = "promise 16";
+            due("rank(" + order[nth] + ")", q.rank(order[nth]), nth);
         }
-        promise = 15;
-        for (int place : new int[] {-1, 4, 30, Integer.MIN_VALUE, Integer.MAX_VALUE}) {
-            due("ranked(" + place + ")", q.ranked(place), -1);
+        place = "promise 15";
+        for (int nth : new int[] {-1, 4, 30, MIN, MAX}) {
+            due("ranked(" + nth + ")", q.ranked(nth), -1);
         }
         due("ranked(0) without items", new TwoEndQueues().ranked(0), -1);
         q.disturb(0, 0, 3);
         due("ranked(0), disturbed", q.ranked(0), 1);
-        promise = 16;
+        place = "promise 16";
         due("rank(1), disturbed", q.rank(1), 0);
-        for (int handle : new int[] {-1, 4, 30, Integer.MIN_VALUE, Integer.MAX_VALUE}) {
+        for (int handle : new int[] {-1, 4, 30, MIN, MAX}) {
             dueThrow(q, "rank(" + handle + ")", INDEX, () -> q.rank(handle));
         }
     }
 
     private static void between() {
-        promise = 17;
+        place = "promise 17";
         TwoEndQueues q = with(5, -7, 5, 999, -999);
         due("between(5, 5)", q.between(5, 5), 2);
         due("between(-7, 5)", q.between(-7, 5), 3);
@@ -451,23 +352,23 @@ public final class PromiseTests {
         due("between(5, -7)", q.between(5, -7), 0);
         due("between(-999, 999)", q.between(-999, 999), 5);
         due("between(-998, 998)", q.between(-998, 998), 3);
-        due("between(MIN, MAX)", q.between(Integer.MIN_VALUE, Integer.MAX_VALUE), 5);
-        due("between(MAX, MIN)", q.between(Integer.MAX_VALUE, Integer.MIN_VALUE), 0);
+        due("between(MIN, MAX)", q.between(MIN, MAX), 5);
+        due("between(MAX, MIN)", q.between(MAX, MIN), 0);
         due("between() without items", new TwoEndQueues().between(-999, 999), 0);
         q.remove(0);
         due("between(5, 5) with one left", q.between(5, 5), 1);
     }
 
     private static void at() {
-        promise = 18;
+        place = "promise 18";
         TwoEndQueues q = with(5, 3, 4);
-        dueText("layouts", layout(q, 0) + layout(q, 1) + layout(q, 2) + layout(q, 3), "[1, 0, 2][1, 0, 2][1, 0, 2][0, 1, 2]");
+        dueText("layouts", row(q, 0) + row(q, 1) + row(q, 2) + row(q, 3), "[1, 0, 2][1, 0, 2][1, 0, 2][0, 1, 2]");
         for (int layout = 0; layout < 4; layout++) {
-            for (int position : new int[] {-1, 3, 29, 30, Integer.MIN_VALUE, Integer.MAX_VALUE}) {
+            for (int position : new int[] {-1, 3, 29, 30, MIN, MAX}) {
                 due("at(" + layout + ", " + position + ")", q.at(layout, position), -1);
             }
         }
-        for (int layout : new int[] {-1, 4, Integer.MIN_VALUE, Integer.MAX_VALUE}) {
+        for (int layout : new int[] {-1, 4, MIN, MAX}) {
             dueThrow(q, "at(" + layout + ", 0)", ARGUMENT, () -> q.at(layout, 0));
             dueThrow(q, "at(" + layout + ", 9)", ARGUMENT, () -> q.at(layout, 9));
         }
@@ -476,23 +377,23 @@ public final class PromiseTests {
     }
 
     private static void where() {
-        promise = 19;
+        place = "promise 19";
         TwoEndQueues q = with(5, 3, 4);
         due("where(0, 1)", q.where(0, 1), 0);
         due("where(1, 2)", q.where(1, 2), 2);
         due("where(2, 0)", q.where(2, 0), 1);
         due("where(3, 0)", q.where(3, 0), 0);
-        for (int layout : new int[] {-1, 4, Integer.MIN_VALUE, Integer.MAX_VALUE}) {
+        for (int layout : new int[] {-1, 4, MIN, MAX}) {
             dueThrow(q, "where(" + layout + ", 0)", ARGUMENT, () -> q.where(layout, 0));
             dueThrow(q, "where(" + layout + ", 30)", ARGUMENT, () -> q.where(layout, 30));
         }
-        for (int handle : new int[] {-1, 3, 30, Integer.MIN_VALUE, Integer.MAX_VALUE}) {
+        for (int handle : new int[] {-1, 3, 30, MIN, MAX}) {
             dueThrow(q, "where(0, " + handle + ")", INDEX, () -> q.where(0, handle));
         }
     }
 
     private static void violations() {
-        promise = 20;
+        place = "promise 20";
         TwoEndQueues q = with(5, 3, 4);
         for (int layout = 0; layout < 4; layout++) {
             due("violations(layout)", q.violations(layout), 0);
@@ -500,7 +401,7 @@ public final class PromiseTests {
         }
         q.disturb(0, 0, 1);
         due("violations(0), a low position alone in two pairs", q.violations(0), 3);
-        String before = snapshot(q);
+        String before = trace(q);
         q.violations(0);
         dueSame(q, "violations() counts no comparison", before);
         TwoEndQueues four = with(0, 1, 2, 3);
@@ -515,28 +416,28 @@ public final class PromiseTests {
         due("violations(2) by handles", same.violations(2), 2);
         same.disturb(3, 0, 1);
         due("violations(3) by handles", same.violations(3), 2);
-        for (int layout : new int[] {-1, 4, Integer.MIN_VALUE, Integer.MAX_VALUE}) {
+        for (int layout : new int[] {-1, 4, MIN, MAX}) {
             dueThrow(q, "violations(" + layout + ")", ARGUMENT, () -> q.violations(layout));
         }
     }
 
     private static void disturb() {
-        promise = 21;
+        place = "promise 21";
         TwoEndQueues q = with(0, 1, 2, 3, 4, 5, 6);
-        dueText("layout 2", layout(q, 2), "[0, 1, 2, 3, 4, 5, 6]");
-        String others = layout(q, 0) + layout(q, 1) + layout(q, 3) + counts(q);
+        dueText("layout 2", row(q, 2), "[0, 1, 2, 3, 4, 5, 6]");
+        String others = row(q, 0) + row(q, 1) + row(q, 3) + counts(q);
         due("disturb(2, 0, 6)", q.disturb(2, 0, 6), 3);
-        dueText("layout 2", layout(q, 2), "[6, 1, 2, 3, 4, 5, 0]");
-        dueText("other layouts and counts", layout(q, 0) + layout(q, 1) + layout(q, 3) + counts(q), others);
+        dueText("layout 2", row(q, 2), "[6, 1, 2, 3, 4, 5, 0]");
+        dueText("other layouts and counts", row(q, 0) + row(q, 1) + row(q, 3) + counts(q), others);
         due("disturb(2, 3, 3)", q.disturb(2, 3, 3), 3);
         due("undo()", q.undo(), 4);
         due("disturb(2, 6, 0)", q.disturb(2, 6, 0), 0);
-        dueText("layout 2", layout(q, 2), "[0, 1, 2, 3, 4, 5, 6]");
-        for (int layout : new int[] {-1, 4, Integer.MIN_VALUE, Integer.MAX_VALUE}) {
+        dueText("layout 2", row(q, 2), "[0, 1, 2, 3, 4, 5, 6]");
+        for (int layout : new int[] {-1, 4, MIN, MAX}) {
             dueThrow(q, "disturb(" + layout + ", 0, 0)", ARGUMENT, () -> q.disturb(layout, 0, 0));
             dueThrow(q, "disturb(" + layout + ", 9, 9)", ARGUMENT, () -> q.disturb(layout, 9, 9));
         }
-        for (int position : new int[] {-1, 7, 30, Integer.MIN_VALUE, Integer.MAX_VALUE}) {
+        for (int position : new int[] {-1, 7, 30, MIN, MAX}) {
             dueThrow(q, "disturb(0, " + position + ", 0)", INDEX, () -> q.disturb(0, position, 0));
             dueThrow(q, "disturb(0, 0, " + position + ")", INDEX, () -> q.disturb(0, 0, position));
             dueThrow(q, "disturb(0, twice " + position + ")", INDEX, () -> q.disturb(0, position, position));
@@ -544,7 +445,7 @@ public final class PromiseTests {
     }
 
     private static void level() {
-        promise = 22;
+        place = "promise 22";
         TwoEndQueues q = new TwoEndQueues();
         int level = 0;
         for (int first = 0; first <= 1000000; first = 2 * first + 1) {
@@ -556,16 +457,16 @@ public final class PromiseTests {
         }
         due("level(2)", q.level(2), 1);
         due("level(1000000)", q.level(1000000), 19);
-        for (int position : new int[] {-1, 1000001, Integer.MIN_VALUE, Integer.MAX_VALUE}) {
+        for (int position : new int[] {-1, 1000001, MIN, MAX}) {
             dueThrow(q, "level(" + position + ")", ARGUMENT, () -> q.level(position));
         }
     }
 
     private static void ancestors() {
-        promise = 23;
+        place = "promise 23";
         TwoEndQueues q = with(0, 1, 2, 3);
         // layout 2 is [0, 1, 2, 3], layout 3 is [3, 2, 1, 0]
-        dueText("layout 3", layout(q, 3), "[3, 2, 1, 0]");
+        dueText("layout 3", row(q, 3), "[3, 2, 1, 0]");
         for (int handle = 0; handle < 4; handle++) {
             due("ancestors(" + handle + ")", q.ancestors(handle), 0);
         }
@@ -580,24 +481,24 @@ public final class PromiseTests {
         due("ancestors(3)", q.ancestors(3), 0);
         q.disturb(3, 0, 1);
         due("ancestors(1), with position 0 on both ways", q.ancestors(1), 1);
-        for (int handle : new int[] {-1, 4, 30, Integer.MIN_VALUE, Integer.MAX_VALUE}) {
+        for (int handle : new int[] {-1, 4, 30, MIN, MAX}) {
             dueThrow(q, "ancestors(" + handle + ")", INDEX, () -> q.ancestors(handle));
         }
     }
 
     private static void comparisons() {
-        promise = 24;
+        place = "promise 24";
         TwoEndQueues q = with(5, 3, 4);
         due("comparisons(0)", q.comparisons(0), 3);
         due("comparisons(1)", q.comparisons(1), 2);
         due("comparisons(2)", q.comparisons(2), 4);
-        for (int queue : new int[] {-1, 3, Integer.MIN_VALUE, Integer.MAX_VALUE}) {
+        for (int queue : new int[] {-1, 3, MIN, MAX}) {
             dueThrow(q, "comparisons(" + queue + ")", ARGUMENT, () -> q.comparisons(queue));
         }
     }
 
     private static void forget() {
-        promise = 25;
+        place = "promise 25";
         TwoEndQueues q = with(5, 3, 4);
         due("forget()", q.forget(), 9);
         dueText("counts", counts(q), "0,0,0");
@@ -610,9 +511,9 @@ public final class PromiseTests {
     }
 
     private static void wouldNeed() {
-        promise = 26;
+        place = "promise 26";
         TwoEndQueues q = with(5, 3, 4);
-        String before = snapshot(q);
+        String before = trace(q);
         due("takeLeast(), queue 0", q.wouldNeed(0, 1, 0), 3);
         due("takeLeast(), queue 1", q.wouldNeed(1, 1, 1000), 1);
         due("takeLeast(), queue 2", q.wouldNeed(2, 1, -1), 2);
@@ -621,7 +522,7 @@ public final class PromiseTests {
         due("remove(3)", q.wouldNeed(0, 3, 3), -1);
         due("remove(-1)", q.wouldNeed(0, 3, -1), -1);
         due("build(), queue 0", q.wouldNeed(0, 4, 0), 4);
-        due("build(), queue 2", q.wouldNeed(2, 4, Integer.MIN_VALUE), 4);
+        due("build(), queue 2", q.wouldNeed(2, 4, MIN), 4);
         due("insert(999)", q.wouldNeed(0, 0, 999), 2);
         due("insert(1000)", q.wouldNeed(0, 0, 1000), -1);
         due("insert(-1000)", q.wouldNeed(1, 0, -1000), -1);
@@ -634,11 +535,11 @@ public final class PromiseTests {
         due("first insert()", empty.wouldNeed(2, 0, 0), 0);
         empty.fill(30, 1);
         due("insert() with 30 items", empty.wouldNeed(0, 0, 0), -1);
-        for (int queue : new int[] {-1, 3, Integer.MIN_VALUE, Integer.MAX_VALUE}) {
+        for (int queue : new int[] {-1, 3, MIN, MAX}) {
             dueThrow(q, "wouldNeed(" + queue + ", 0, 0)", ARGUMENT, () -> q.wouldNeed(queue, 0, 0));
             dueThrow(q, "wouldNeed(" + queue + ", 0, 1000)", ARGUMENT, () -> q.wouldNeed(queue, 0, 1000));
         }
-        for (int what : new int[] {-1, 5, 6, Integer.MIN_VALUE, Integer.MAX_VALUE}) {
+        for (int what : new int[] {-1, 5, 6, MIN, MAX}) {
             dueThrow(q, "wouldNeed(0, " + what + ", 0)", ARGUMENT, () -> q.wouldNeed(0, what, 0));
         }
     }
@@ -669,9 +570,9 @@ public final class PromiseTests {
     }
 
     private static void sortingNeeds() {
-        promise = 27;
+        place = "promise 27";
         TwoEndQueues q = with(5, 3, 4);
-        String before = snapshot(q);
+        String before = trace(q);
         // each time the last item comes to position 0; with one item left nothing is compared
         due("sortingNeeds(0)", q.sortingNeeds(0), 3);
         due("sortingNeeds(1)", q.sortingNeeds(1), 1);
@@ -689,13 +590,13 @@ public final class PromiseTests {
             big.takeLeast();
         }
         dueText("sortingNeeds() against takeLeast()", counts(big), needs[0] + "," + needs[1] + "," + needs[2]);
-        for (int queue : new int[] {-1, 3, Integer.MIN_VALUE, Integer.MAX_VALUE}) {
+        for (int queue : new int[] {-1, 3, MIN, MAX}) {
             dueThrow(q, "sortingNeeds(" + queue + ")", ARGUMENT, () -> q.sortingNeeds(queue));
         }
     }
 
     private static void fewest() {
-        promise = 28;
+        place = "promise 28";
         due("fewest() of a new object", new TwoEndQueues().fewest(), 0);
         due("fewest() with 1, 1, 2", with(5, 3).fewest(), 0);
         due("fewest() with 3, 2, 4", with(5, 3, 4).fewest(), 1);
@@ -717,11 +618,11 @@ public final class PromiseTests {
     }
 
     private static void type() {
-        promise = 29;
+        place = "promise 29";
         TwoEndQueues q = new TwoEndQueues();
         due("type(32)", q.type(32), 1);
         due("type(126)", q.type(126), 2);
-        for (int c : new int[] {-1, 0, 31, 127, 128, 256 + 65, Integer.MIN_VALUE, Integer.MAX_VALUE}) {
+        for (int c : new int[] {-1, 0, 31, 127, 128, 256 + 65, MIN, MAX}) {
             dueThrow(q, "type(" + c + ")", ARGUMENT, () -> q.type(c));
         }
         for (int length = 3; length <= 120; length++) {
@@ -735,7 +636,7 @@ public final class PromiseTests {
     }
 
     private static void clearText() {
-        promise = 30;
+        place = "promise 30";
         TwoEndQueues q = with(1);
         typeAll(q, "l;x");
         due("clearText()", q.clearText(), 3);
@@ -746,7 +647,7 @@ public final class PromiseTests {
     }
 
     private static void fault() {
-        promise = 31;
+        place = "promise 31";
         String[] scripts = {
             "", "l;", "g;", "b;", "i0;", "i999;", "i-999;", "i-0;", "i000;", "i-00;", "i007;", "r0;", "r00;", "r99;", "r30;",
             "c0,0;", "c29,-999;", "c07,012;", "i1;i2;l;g;r0;c1,-5;b;",
@@ -811,7 +712,7 @@ public final class PromiseTests {
     }
 
     private static void run() {
-        promise = 32;
+        place = "promise 32";
         TwoEndQueues q = new TwoEndQueues();
         typeAll(q, "i5;i3;i-004;l;c0,-0;r1;g;b;");
         due("run()", q.run(), 8);
@@ -862,7 +763,7 @@ public final class PromiseTests {
     }
 
     private static void undo() {
-        promise = 33;
+        place = "promise 33";
         TwoEndQueues q = new TwoEndQueues();
         for (int i = 0; i < 7; i++) {
             q.insert(i);
@@ -896,7 +797,7 @@ public final class PromiseTests {
             TwoEndQueues q = new TwoEndQueues();
             q.fill(20, 31);
             typeAll(q, "l;g;b;");
-            String before = snapshot(q);
+            String before = trace(q);
             switch (kind) {
                 case 0: q.insert(5); break;
                 case 1: q.takeLeast(); break;
@@ -918,7 +819,7 @@ public final class PromiseTests {
     }
 
     private static void checksum() {
-        promise = 34;
+        place = "promise 34";
         TwoEndQueues q = new TwoEndQueues();
         due("checksum() of a new object", q.checksum(), checksumOf(0, 0, 0, 0, 0, 0, 0, 0, 0, 0, 0));
         TwoEndQueues three = with(5, -3, 4);
