@@ -976,8 +976,12 @@ public final class TwoEndQueues {
             }
         }
 
+        private Queues slotAt(int index) {
+            return index >= 0 && index < ring.length ? ring[index] : null;
+        }
+
         void keep(Queues now) {
-            Queues slot = ring[next];
+            Queues slot = slotAt(next);
             if (slot != null) {
                 slot.copyFrom(now);
                 next = (next + 1) % MOST_RECORDS;
@@ -987,7 +991,7 @@ public final class TwoEndQueues {
 
         void restore(Queues now) {
             int latest = (next + MOST_RECORDS - 1) % MOST_RECORDS;
-            Queues slot = ring[latest];
+            Queues slot = slotAt(latest);
             if (kept > 0 && slot != null) {
                 now.copyFrom(slot);
                 next = latest;

@@ -241,6 +241,8 @@ public final class IntervalBoundaryTests extends Tests {
         // n = 4: node 2, whose parent is node 0 too
         dueInsert(0, "[4, 1, 2, 3, 0]", 2, 1, 9, 5, 6);
         dueInsert(3, "[0, 1, 2, 3, 4]", 2, 1, 9, 5, 6);
+        // node 0 upside down: it is the low position, not the high one, that tells which way to go
+        dueInsert(5, "[2, 1, 0]", 2, 9, 1);
     }
 
     @Sentence(of = QUEUE_0, says = "and the last position is gone. If i was the last position, that is all.")

@@ -11,26 +11,20 @@ import java.util.regex.Pattern;
  * Long runs of mixed calls against a model that is written from the document word by word, with
  * item objects, lists and recursion, so that it shares no thought with the class itself.
  */
-public final class ModelTests {
+public final class ModelTests extends Tests {
     private static final int RUNS = 1500;
     /** Each step is one call and a checksum(); an object is used for at most 512 calls. */
     private static final int STEPS = 256;
 
-    private interface Call {
-        long answer();
-    }
-
     public static void main(String[] args) {
-        int wrong = 0;
-        for (int seed = 0; seed < RUNS && wrong < 5; seed++) {
+        int differ = 0;
+        for (int seed = 0; seed < RUNS && differ < 5; seed++) {
+            place = "seed " + seed;
             if (!sameRun(seed)) {
-                wrong++;
+                differ++;
             }
         }
-        System.out.println(wrong == 0 ? "the class and the model agree" : wrong + " runs differ from the model");
-        if (wrong != 0) {
-            System.exit(1);
-        }
+        finish("the class and the model agree");
     }
 
     private static boolean sameRun(int seed) {
@@ -47,7 +41,7 @@ public final class ModelTests {
             long wantSum = model.checksum();
             told.append(a[0]).append('(').append(a[1]).append(',').append(a[2]).append(',').append(a[3]).append(") ");
             if (!got.equals(want) || gotSum != wantSum) {
-                System.out.println("seed " + seed + ", step " + step + ": " + got + ", due is " + want
+                tellWrong("step " + step + ": " + got + ", due is " + want
                     + "; checksum " + gotSum + ", due is " + wantSum + "; calls " + told);
                 return false;
             }

@@ -25,10 +25,15 @@ abstract class Tests {
     static final int[] NO_HANDLES = {MIN, -32, -1, 30, 31, 32, 64, MAX};
 
     private static final Path DOCUMENT = Path.of("../shared/DOC.md");
+    private static final int MOST_SECONDS = 300;
 
     /** What is being tested; it is told with every wrong answer. */
     static String place = "";
     private static int wrong = 0;
+
+    static {
+        watchTheClock();
+    }
 
     /** A sentence of the document, or a part of one, that the marked method is the test of. */
     @Retention(RetentionPolicy.RUNTIME)
@@ -45,6 +50,21 @@ abstract class Tests {
 
     interface CallWith {
         long answer(int value);
+    }
+
+    /** A call that does not end is a wrong answer too. */
+    private static void watchTheClock() {
+        Thread watch = new Thread(() -> {
+            try {
+                Thread.sleep(1000L * MOST_SECONDS);
+            } catch (InterruptedException e) {
+                return;
+            }
+            System.out.println(place + ": not at its end after " + MOST_SECONDS + " seconds");
+            Runtime.getRuntime().halt(1);
+        });
+        watch.setDaemon(true);
+        watch.start();
     }
 
     static void tellWrong(String what) {
@@ -113,8 +133,9 @@ abstract class Tests {
 
     static String row(TwoEndQueues q, int layout) {
         List<Integer> row = new ArrayList<>();
-        for (int handle = q.at(layout, 0); handle != NONE; handle = q.at(layout, row.size())) {
-            row.add(handle);
+        int size = q.size();
+        for (int position = 0; position < size; position++) {
+            row.add(q.at(layout, position));
         }
         return row.toString();
     }
