@@ -275,6 +275,8 @@ public final class IntervalBoundaryTests extends Tests {
         dueChange(3, 8, "[0, 1, 2, 3, 4, 5]", 5, 1, 9, 2, 8, 3, 7);
         dueChange(3, 0, "[3, 1, 0, 2, 4, 5]", 5, 1, 9, 2, 8, 3, 7);
         dueChange(2, 99, "[0, 2, 3, 1, 4, 5]", 5, 1, 9, 2, 8, 3, 7);
+        // node 0 upside down: 5 goes to its low position first, and 9, which comes down, to its high one
+        dueChange(2, 5, "[2, 0, 1]", 2, 9, 1, 7);
         // a rise from node 1 brings the old item of node 0 to node 1, where it sinks on
         dueChange(2, -1, "[2, 1, 6, 3, 4, 5, 0]", 7, 50, 99, 51, 98, 4, 96, 6);
     }

@@ -182,6 +182,8 @@ public final class PairBoundaryTests extends Tests {
         dueChange(0, 7, "[0]", "[0]", 0, 5);
         // the item goes up to 0; down() is done at 1, where it was
         dueChange(1, -5, "[1, 0, 2, 3]", "[3, 2, 1, 0]", 3, tens(4));
+        // both ways are open in layout 2, 50 above and 10 below: up() comes first, then 10 goes past 50
+        dueChange(1, 20, "[1, 3, 2, 0]", "[1, 2, 3, 0]", 3, 50, 20, 60, 10);
         // in layout 3 the item 2 goes up from 1, where its old parent has one child to be compared with
         dueChange(2, 35, "[0, 1, 2, 3]", "[2, 3, 1, 0]", 3, tens(4));
     }

@@ -206,6 +206,29 @@ public final class ScriptBoundaryTests extends Tests {
         }
     }
 
+    @Sentence(of = UNDO, says = "Every method that is marked \"undoable\"")
+    static void onlyMarkedMethodsRecord() {
+        for (String name : UNDOABLE) {
+            TwoEndQueues q = new TwoEndQueues();
+            q.fill(20, 31);
+            callUndoable(q, name);
+            due("undo() of " + name, q.undo(), 1);
+        }
+        TwoEndQueues q = with(5);
+        q.undo();
+        q.insert(6);
+        List<Call> unmarked = List.of(
+            q::size, q::handles, () -> q.key(0), () -> q.least(0), () -> q.greatest(1), () -> q.ranked(0), () -> q.rank(0),
+            () -> q.between(0, 9), () -> q.at(0, 0), () -> q.where(0, 0), () -> q.violations(1), () -> q.level(7),
+            () -> q.ancestors(0), () -> q.comparisons(0), () -> q.wouldNeed(0, 4, 0), () -> q.sortingNeeds(0), q::fewest,
+            () -> q.type('b'), q::clearText, q::fault, q::checksum);
+        for (Call call : unmarked) {
+            call.answer();
+        }
+        due("undo(): the record of insert() is the only one", q.undo(), 0);
+        due("size()", q.size(), 0);
+    }
+
     @Sentence(of = UNDO, says = "records the items, the layouts and the counts, as they were before the call")
     static void recordsAllButTheText() {
         for (String name : UNDOABLE) {
