@@ -1,7 +1,10 @@
+import java.io.IOException;
 import java.lang.reflect.Constructor;
 import java.lang.reflect.Field;
 import java.lang.reflect.Method;
 import java.lang.reflect.Modifier;
+import java.nio.file.Files;
+import java.nio.file.Path;
 import java.util.Arrays;
 import java.util.Set;
 import java.util.TreeSet;
@@ -53,7 +56,8 @@ public final class FaceTests {
         }
     }
 
-    public static void main(String[] args) {
+    public static void main(String[] args) throws IOException {
+        faceIsTheDocuments();
         methodsAreTheDocuments();
         constructorAndConstant();
         classesInside();
@@ -61,6 +65,19 @@ public final class FaceTests {
         if (wrong != 0) {
             System.exit(1);
         }
+    }
+
+    /** A line of the document reads: public int type(int c) throws IllegalArgumentException, IllegalStateException; */
+    private static void faceIsTheDocuments() throws IOException {
+        Set<String> told = new TreeSet<>();
+        for (String line : Files.readAllLines(Path.of("../shared/DOC.md"))) {
+            if (line.matches(" +public (int|long) .*")) {
+                told.add(line.trim().replaceAll("^public |;$| throws|(?<=int) [a-z]+(?=[,)])", "")
+                    .replaceAll(", (?=int)", ",").replaceAll(", ", " "));
+            }
+        }
+        Set<String> want = new TreeSet<>(Arrays.asList(FACE));
+        due(told.equals(want), "the document's methods are " + want + ", it has " + told);
     }
 
     private static void methodsAreTheDocuments() {
@@ -97,7 +114,8 @@ public final class FaceTests {
             && Modifier.isPublic(constructors[0].getModifiers()), "one public constructor without parameters");
         for (Field field : TwoEndQueues.class.getDeclaredFields()) {
             boolean isNone = field.getName().equals("NONE");
-            due(isNone ? Modifier.isPublic(field.getModifiers()) : Modifier.isPrivate(field.getModifiers()), "access of " + field);
+            due(isNone || Modifier.isPrivate(field.getModifiers()), "private: " + field);
+            due(!isNone || field.toString().equals("public static final int TwoEndQueues.NONE"), "a constant: " + field);
         }
     }
 
